@@ -149,7 +149,7 @@ public final class LampSquares {
         return acts.kept;
     }
 
-    // ---- what is done
+    // ---- what is done (SQUARES, VISITORS told as bits; BAD: bits beyond)
 
     public int pose(int visitor, int squares) {
         if (!here.isVisitor(visitor) || !here.areSquares(squares)) {

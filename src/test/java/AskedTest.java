@@ -69,6 +69,13 @@ public final class AskedTest {
         due.holds("the trace stays, where it is refused", Due.trace(x).equals("23 20 14 13 10"));
         x.share(0, 9);
         asked(x, 0, 0, 12, "11 10 21 20");
+        x.share(1, 9);
+        asked(x, 1, 1, 8, "24 21 20");
+        asked(x, 1, 0, -17, "12 11 10 24 21 20");
+        LampSquares y = Due.at("d1,0;u0;u0;u0;u0;u0;u0;c0;e9;v9,0;v9,0;v9,0;v0,0;v4,4;");
+        asked(y, 7, 1, 22, "24 21 20");
+        asked(y, 7, 0, -31, "12 11 10 24 21 20");
+        asked(y, 6, 0, -993, "11 10 22 21 20");
     }
 
     private static void trace() {

@@ -21,6 +21,7 @@ public final class ForetoldTest {
         slip();
         drawn();
         images();
+        aFullHouse();
         due.end();
     }
 
@@ -228,6 +229,7 @@ public final class ForetoldTest {
         LampSquares y = Due.at("d5,0;k5;k6;k4;v4,0;v5,0;v9,0;");
         due.is("save(7, 1): one of each that is wrong", y.save(7, 1), 5);
         due.is("save(6, 1): of the set alone", y.save(6, 1), 4);
+        due.is("save(5, 1): all of the set", y.save(5, 1), 5);
     }
 
     private static void shares() {
@@ -288,6 +290,8 @@ public final class ForetoldTest {
         x.set(0, 0, 0);
         x.set(0, 3, 0);
         due.is("who(0, 0)", x.who(0, 0), 8);
+        Due.tell(x, 1, 1, 1, 1, 1, 1, 0);
+        due.is("the first alone", x.who(1, 0), 1);
     }
 
     private static void cares() {
@@ -417,5 +421,32 @@ public final class ForetoldTest {
         x.strict(2);
         x.restore(0);
         due.is("count(3)", x.count(3), 7);
+    }
+
+    /** As many squares and visitors as there is room for; all but the last visitor are wrong everywhere. */
+    private static void aFullHouse() {
+        LampSquares x = Due.at("d1,7;k9;k9;k9;k9;k9;k9;k9;k9;v0,0;v0,1;v0,2;v0,3;v9,4;");
+        due.is("wrong(3, 255)", x.wrong(3, 255), 8);
+        due.is("wrong(4, 255)", x.wrong(4, 255), 0);
+        due.is("guests(255)", x.guests(255), 16);
+        due.is("guests(254)", x.guests(254), 31);
+        due.is("fewest(16, 0)", x.fewest(16, 0), 8);
+        due.is("fewest(16, 1)", x.fewest(16, 1), 255);
+        due.is("save(255, 0)", x.save(255, 0), 8);
+        due.is("save(255, 1)", x.save(255, 1), 255);
+        due.is("harsh(31, 255)", x.harsh(31, 255), 8);
+        due.is("keen(0)", x.keen(0), 0);
+        due.is("keen(1)", x.keen(1), 3);
+        due.is("tells(255, 0)", x.tells(255, 0), 4);
+        due.is("tells(255, 1)", x.tells(255, 1), 1);
+        Due.tell(x, 0, 0, 0, 0, 0, 1);
+        due.is("shares(7, 0, 0)", x.shares(7, 0, 0), 1022);
+        due.is("kinds(7, 0, 0): all but heard", x.kinds(7, 0, 0), 2 + 4 + 8 + 16);
+        Due.tell(x, 1, 1, 1, 1, 1, 1, 1, 1, 1);
+        due.is("who(1, 0)", x.who(1, 0), 16);
+        due.is("cares(0, 1, 0)", x.cares(0, 1, 0), 1022);
+        LampSquares y = Due.at("d1,0;k9;k9;k9;k9;k9;k9;k9;k9;v0,0;v0,1;v0,2;v0,3;v0,4;");
+        due.is("all are wrong everywhere", y.keen(1), 5);
+        due.is("keen(0)", y.keen(0), 0);
     }
 }

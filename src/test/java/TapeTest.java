@@ -136,6 +136,7 @@ public final class TapeTest {
         x.settle(3);
         x.strict(5);
         x.ask(3, 0);
+        due.is("days that are only foretold leave nothing", x.drawn(60, 1, 1) > 2 ? 1 : 0, 1);
         due.is("door() of nothing", x.door(), -1000100);
         due.is("acts stay", x.count(6), 3);
         due.is("votes stay", x.count(5), 2);
@@ -149,6 +150,12 @@ public final class TapeTest {
         due.is("no square is settled", x.square(3, 5), Due.NONE);
         due.is("nobody was asked", x.visitor(0, 2), 0);
         due.is("nobody was let in", x.visitor(0, 3), 0);
+        x.drawn(60, 1, 0);
+        Due.read(x, Due.SIX);
+        for (int i = 0; i < 4; i++) {
+            due.is("nobody was asked, after days foretold", x.visitor(i, 2) + x.visitor(i, 3), 0);
+        }
+        due.is("no votes, after days foretold", x.count(5), 0);
         due.is("rows stay", x.count(0), 1);
         due.is("images stay", x.restore(1), 1);
         due.is("fault() stays", x.fault(), 1);
