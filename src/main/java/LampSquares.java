@@ -21,7 +21,8 @@ public final class LampSquares {
     private static final int MOST_BYTES = 120, MOST_FIGURES = 2;
     private static final int MOST_SQUARES = 8, MOST_VISITORS = 5;
     private static final int MOST_VOTES = 99, MOST_ACTS = 24, MOST_TRACED = 16, MOST_DAYS = 60, MOST_SEED = 999999;
-    private static final int MOST_STRICT = 8, MOST_SHARE = 9, MOST_CARE = 9, MOST_EAR = 9, LEAST_EDGE = 1, MOST_EDGE = 9;
+    private static final int LEAST_EDGE = 1, MOST_EDGE = 9, MOST_STRICT = 8;
+    private static final int MOST_SHARE = 9, MOST_CARE = 9, MOST_EAR = 9;
 
     /** From this care on a crooked square is seen as it is, from this ear on a heard one is heard. */
     private static final int CAREFUL = 5, HEARING = 5;
