@@ -59,6 +59,7 @@ public final class EdgesOfForetoldTest {
         daysLetInBySettledAndStrict();
         daysChangeNothing();
         imagesOfTheirOwn();
+        imageOfAFullDoor();
         imageInPlaceOfTheOneBefore();
         restoreTakesNoActBack();
         foretoldChangesNothing();
@@ -806,6 +807,20 @@ public final class EdgesOfForetoldTest {
             x.pose(1, 4);
             x.strict(0);
         }
+    }
+
+    /** All of a full door: each of eight squares has votes for and against, each of five visitors was asked. */
+    private static void imageOfAFullDoor() {
+        LampSquares x = Due.at("d9,8;u1;u2;u3;u4;u5;u6;u7;u8;v9,0;v9,1;v9,2;v9,3;v0,4;");
+        for (int v = 0; v < 5; v++) {
+            x.pose(v, 255);
+            x.pose(4, 255);
+        }
+        String kept = State.ofDoor(x).replaceAll("count 6: .*", "");
+        due.is("image(0)", x.image(0), 1);
+        due.is("door()", Due.read(x, "d1,0;h0;h0;h0;h0;h0;h0;h0;h0;v1,9;v1,9;v1,9;v1,9;v1,9;"), 8);
+        due.is("restore(0)", x.restore(0), 1);
+        due.holds("all of it", State.ofDoor(x).replaceAll("count 6: .*", "").equals(kept));
     }
 
     private static void imageInPlaceOfTheOneBefore() {

@@ -19,7 +19,9 @@ public final class EdgesOfRowsTest {
         copyLeavesTheOthers();
         placesThatPassTheGreatestInt();
         dropTellsHowManyItHad();
+        statusOfNoCall();
         statusOfEachFinding();
+        statusOfNoFinding();
         statusOfTheFirstOfSeveral();
         statusStaysByCallsWithoutARow();
         due.end();
@@ -292,6 +294,46 @@ public final class EdgesOfRowsTest {
             due.is("set(3, 0, 0)", x.set(3, 0, 0), Due.NULL);
             due.is("count(0)", x.count(0), 0);
         }
+    }
+
+    /** "0: .. there was none": none at all, or none that was not BAD, STATE, FULL. */
+    private static void statusOfNoCall() {
+        LampSquares x = new LampSquares();
+        due.is("status() of a new one", x.status(), 0);
+        due.is("row(8, 0, 0)", x.row(8, 0, 0), Due.BAD);
+        due.is("set(-1, 0, 0)", x.set(-1, 0, 0), Due.BAD);
+        due.is("copy(0, 0, 8, 0, 0)", x.copy(0, 0, 8, 0, 0), Due.BAD);
+        due.is("drop(8)", x.drop(8), Due.BAD);
+        due.is("shares(0, 0, 0)", x.shares(0, 0, 0), Due.BAD);
+        due.is("kinds(0, 0, 0)", x.kinds(0, 0, 0), Due.BAD);
+        due.is("who(0, 0)", x.who(0, 0), Due.STATE);
+        due.is("cares(0, 0, 0)", x.cares(0, 0, 0), Due.STATE);
+        due.is("as(0, 0)", x.as(0, 0), Due.BAD);
+        due.is("status() of what was refused", x.status(), 0);
+    }
+
+    private static void noFinding(LampSquares x, String call, long answer) {
+        due.holds(call + " is no refusal", answer >= 0);
+        due.is("status() after " + call, x.status(), 0);
+        x.drop(7);
+        due.is("status() after drop(7)", x.status(), 1);
+    }
+
+    /** "the number of its FINDING; 0: it had none": each call with a ROW, and as(), behind one that had one. */
+    private static void statusOfNoFinding() {
+        LampSquares x = reader();
+        x.drop(7);
+        noFinding(x, "row(0, 0, 2)", x.row(0, 0, 2));
+        noFinding(x, "row(1, 0, 0)", x.row(1, 0, 0));
+        noFinding(x, "set(0, 1, 0)", x.set(0, 1, 0));
+        noFinding(x, "copy(0, 0, 0, 1, 1)", x.copy(0, 0, 0, 1, 1));
+        noFinding(x, "copy(0, 2, 1, 0, 0)", x.copy(0, 2, 1, 0, 0));
+        noFinding(x, "shares(0, 0, 1)", x.shares(0, 0, 1));
+        noFinding(x, "kinds(0, 0, 1)", x.kinds(0, 0, 1));
+        noFinding(x, "who(0, 1)", x.who(0, 1));
+        noFinding(x, "cares(9, 0, 1)", x.cares(9, 0, 1));
+        noFinding(x, "as(0, 1)", x.as(0, 1));
+        noFinding(x, "drop(1)", x.drop(1));
     }
 
     /** "-1000010 less 1 NULL, 2 PLACE, 3 KIND, 4 SIZE, 5 STORE"; status() tells the number, each call with a row. */

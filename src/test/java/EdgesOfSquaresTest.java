@@ -25,6 +25,7 @@ public final class EdgesOfSquaresTest {
         settledForGood();
         undoOfNone();
         undoTheLatestFirst();
+        undoAtAFullDoor();
         undoOfActsByWhichNothingBecomesAnother();
         twentyFourActsAtMost();
         theRingOfActsPassesItsEnd();
@@ -367,6 +368,28 @@ public final class EdgesOfSquaresTest {
             due.holds("all is as ahead of act " + left, State.ofDoor(x).equals(doors[left]));
         }
         due.is("undo()", x.undo(), Due.STATE);
+    }
+
+    /** The last square and the last visitor of a full door are as they were, too. */
+    private static void undoAtAFullDoor() {
+        LampSquares x = Due.at("d1,8;u1;u1;u1;u1;u1;u1;u1;u1;v0,0;v0,0;v0,0;v9,9;v9,9;");
+        x.pose(4, 255);
+        x.pose(0, 255);
+        String ahead = State.ofDoor(x);
+        due.is("votes for the last", x.square(7, 3), 1);
+        due.is("votes against the last", x.square(7, 4), 1);
+        due.is("pose(4, 128)", x.pose(4, 128), 1);
+        due.is("undo()", x.undo(), 2);
+        due.holds("as ahead of pose(4, 128)", State.ofDoor(x).equals(ahead));
+        x.pose(0, 128);
+        due.is("votes against the last", x.square(7, 4), 2);
+        x.undo();
+        due.holds("as ahead of pose(0, 128)", State.ofDoor(x).equals(ahead));
+        x.share(7, 9);
+        x.settle(7);
+        x.undo();
+        x.undo();
+        due.holds("as ahead of share(7, 9) and settle(7)", State.ofDoor(x).equals(ahead));
     }
 
     /** "also such by which nothing becomes another". */

@@ -28,6 +28,7 @@ public final class EdgesOfTextsTest {
         theLatestFault();
         allButTheTapeStays();
         aDoorStandsInPlaceOfTheOneBefore();
+        daysForetoldLeaveNothingAtTheNext();
         imagesAndRowsStay();
         due.end();
     }
@@ -448,6 +449,7 @@ public final class EdgesOfTextsTest {
         for (String text : texts) {
             LampSquares x = new LampSquares();
             muchAtADoor(x);
+            x.drawn(60, 1, 0);
             int squares = Due.read(x, text);
             String anew = State.ofDoor(Due.at(text));
             due.is("door() of " + text, squares, x.count(1));
@@ -458,6 +460,16 @@ public final class EdgesOfTextsTest {
             due.is("status() after " + text, x.status(), 1);
             due.is("fault() after " + text, x.fault(), 1);
         }
+    }
+
+    /** Days that were foretold at a full door are no VOTES, and nobody was ASKED, at the one that is read next. */
+    private static void daysForetoldLeaveNothingAtTheNext() {
+        String text = "d1,8;u9;h9;u9;h9;u9;h9;u9;h9;v9,9;v0,0;v9,9;v0,0;v9,9;";
+        LampSquares x = Due.at(text);
+        due.holds("there are votes by these days", x.drawn(60, 1, 1) > 99);
+        String anew = State.ofDoor(Due.at(text));
+        Due.read(x, text);
+        due.holds("the door is anew", State.ofDoor(x).equals(anew));
     }
 
     /** "IMAGES and ROWS stay." */

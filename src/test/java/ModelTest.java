@@ -71,7 +71,10 @@ public final class ModelTest {
 
     private void same(String call, long got, long want) {
         calls++;
-        due.is(run + ", call " + calls + ": " + call, got, want);
+        // What comes after the last promised call is free.
+        if (calls <= CALLS) {
+            due.is(run + ", call " + calls + ": " + call, got, want);
+        }
     }
 
     private void tellDoor() {
